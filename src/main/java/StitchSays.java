@@ -136,7 +136,7 @@ public final class StitchSays {
             return FAULTY;
         }
         now.ways[k].takeFrom(newWay);
-        return bitsOf(k);
+        return bitsOf(now.ways[k]);
     }
 
     public int watcher() {
@@ -187,7 +187,7 @@ public final class StitchSays {
         if (no != 0) {
             return no;
         }
-        int answer = putTape(c, k);
+        int answer = putTape(now.cloths[c], now.ways[k]);
         tape.empty();
         return answer;
     }
@@ -197,7 +197,7 @@ public final class StitchSays {
         if (no != 0) {
             return no;
         }
-        if (!saysByWay(c, k)) {
+        if (!saysByWay(now.cloths[c], now.ways[k])) {
             return NONE;
         }
         latest.takeFrom(heard);
@@ -242,7 +242,7 @@ public final class StitchSays {
         }
         int ways = 0;
         for (int k = 0; k < WAYS; k++) {
-            if (now.ways[k].there && saysByWay(c, k)) {
+            if (now.ways[k].there && saysByWay(now.cloths[c], now.ways[k])) {
                 ways |= 1 << k;
             }
         }
@@ -278,12 +278,12 @@ public final class StitchSays {
 
     public int room(int k) {
         int no = refusalOfWay(k);
-        return no != 0 ? no : bitsOf(k);
+        return no != 0 ? no : bitsOf(now.ways[k]);
     }
 
     public int most(int k) {
         int no = refusalOfWay(k);
-        return no != 0 ? no : Math.max(0, bitsOf(k) / BITS_A_LETTER - 1);
+        return no != 0 ? no : Math.max(0, bitsOf(now.ways[k]) / BITS_A_LETTER - 1);
     }
 
     // ---- the WATCHER and the LOSSES: promises 22 to 27
@@ -357,7 +357,7 @@ public final class StitchSays {
         int bestWay = NONE;
         int fewest = MOST_PLACES + 1;
         for (int k = 0; k < WAYS; k++) {
-            int changed = changesByWay(c, k);
+            int changed = changesByWay(now.cloths[c], now.ways[k]);
             if (changed != NONE && changed < fewest) {
                 bestWay = k;
                 fewest = changed;
@@ -463,8 +463,9 @@ public final class StitchSays {
         if (now.cloths[c].stitchAt(place) == LOST) {
             return NOT_TO_BE_DONE;
         }
-        now.cloths[c].turnOver(place, now.pattern);
-        return now.cloths[c].stitchAt(place);
+        int turned = now.pattern.turnedOver(place, now.cloths[c].stitchAt(place));
+        now.cloths[c].setStitch(place, turned);
+        return turned;
     }
 
     public int mend(int c) {
@@ -472,18 +473,19 @@ public final class StitchSays {
         if (no != 0) {
             return no;
         }
-        if (lineThatStops(now.cloths[c]) == NONE) {
+        Cloth cloth = now.cloths[c];
+        if (lineThatStops(cloth) == NONE) {
             return 0;
         }
-        if (oneTurnPasses(c, 0)) {
+        if (oneTurnPasses(cloth, 0)) {
             return 1;
         }
         for (int i = 0; i < now.pattern.free; i++) {
             int place = now.pattern.freePlace(i);
-            int stitch = now.cloths[c].stitchAt(place);
+            int stitch = cloth.stitchAt(place);
             if (stitch != LOST) {
                 tally.change(place, now.pattern.turnedOver(place, stitch));
-                if (oneTurnPasses(c, i + 1)) {
+                if (oneTurnPasses(cloth, i + 1)) {
                     return 2;
                 }
                 tally.change(place, stitch);
@@ -671,26 +673,26 @@ public final class StitchSays {
         return tape.isFine();
     }
 
-    private int bitsOf(int k) {
-        walk.follow(now.ways[k], now.pattern);
+    private int bitsOf(Way way) {
+        walk.follow(way, now.pattern);
         return walk.bits;
     }
 
-    private int putTape(int c, int k) {
+    private int putTape(Cloth cloth, Way way) {
         if (!tape.isWords()) {
             return FAULTY;
         }
-        walk.follow(now.ways[k], now.pattern);
+        walk.follow(way, now.pattern);
         if (!walk.hasRoomFor(tape.size)) {
             return NO_ROOM;
         }
         heard.takeTape(tape);
-        return heard.weaveInto(now.cloths[c], now.pattern, walk);
+        return heard.weaveInto(cloth, now.pattern, walk);
     }
 
-    private boolean saysByWay(int c, int k) {
-        walk.follow(now.ways[k], now.pattern);
-        return heard.hear(now.cloths[c], walk);
+    private boolean saysByWay(Cloth cloth, Way way) {
+        walk.follow(way, now.pattern);
+        return heard.hear(cloth, walk);
     }
 
     private int lineThatStops(Cloth cloth) {
@@ -699,14 +701,15 @@ public final class StitchSays {
     }
 
     /** How many places a WAY changes that does all that best() asks for; NONE if it does not. */
-    private int changesByWay(int c, int k) {
-        walk.follow(now.ways[k], now.pattern);
-        if (!now.ways[k].there || !walk.hasRoomFor(latest.size)) {
+    private int changesByWay(Cloth cloth, Way way) {
+        walk.follow(way, now.pattern);
+        if (!way.there || !walk.hasRoomFor(latest.size)) {
             return NONE;
         }
-        trial.takeFrom(now.cloths[c]);
+        trial.takeFrom(cloth);
         int changed = latest.weaveInto(trial, now.pattern, walk);
-        if (lineThatStops(trial) != NONE) {
+        tally.countOver(now.pattern, trial);
+        if (now.watcher.lineThatStops(tally) != NONE) {
             return NONE;
         }
         now.losses.wear(trial, now.pattern);
@@ -714,10 +717,10 @@ public final class StitchSays {
     }
 
     /** Whether what was counted of a CLOTH passes with one FREE place, the from-th or a later one, turned over. */
-    private boolean oneTurnPasses(int c, int from) {
-        for (int i = from; i < now.pattern.free && hasCloth(c); i++) {
+    private boolean oneTurnPasses(Cloth cloth, int from) {
+        for (int i = from; i < now.pattern.free; i++) {
             int place = now.pattern.freePlace(i);
-            int stitch = now.cloths[c].stitchAt(place);
+            int stitch = cloth.stitchAt(place);
             if (stitch != LOST) {
                 tally.change(place, now.pattern.turnedOver(place, stitch));
                 if (now.watcher.lineThatStops(tally) == NONE) {
@@ -1040,7 +1043,7 @@ public final class StitchSays {
         }
 
         int sortAt(int place) {
-            return place >= 0 && place < places() && place < MOST_PLACES ? sorts[place] : NONE;
+            return place >= 0 && place < wide * high && place < MOST_PLACES ? sorts[place] : NONE;
         }
 
         int freePlace(int i) {
@@ -1305,7 +1308,7 @@ public final class StitchSays {
                 if (groupTells(cloth, g) != value) {
                     int place = lastPlaceLeft(cloth, g);
                     if (place != NONE) {
-                        cloth.turnOver(place, pattern);
+                        cloth.setStitch(place, pattern.turnedOver(place, cloth.stitchAt(place)));
                         changed++;
                     }
                 }
@@ -1432,10 +1435,6 @@ public final class StitchSays {
             if (place >= 0 && place < MOST_PLACES) {
                 stitches[place] = (byte) stitch;
             }
-        }
-
-        void turnOver(int place, Pattern pattern) {
-            setStitch(place, pattern.turnedOver(place, stitchAt(place)));
         }
 
         void takeFrom(Cloth other) {
@@ -1687,7 +1686,9 @@ public final class StitchSays {
         private int mostInRow() {
             int most = 0;
             for (int row = 0; row < high; row++) {
-                most = Math.max(most, inRow[row]);
+                if (inRow[row] > most) {
+                    most = inRow[row];
+                }
             }
             return most;
         }
@@ -1695,7 +1696,9 @@ public final class StitchSays {
         private int leastInRow() {
             int least = MOST_SIDE;
             for (int row = 0; row < high; row++) {
-                least = Math.min(least, inRow[row]);
+                if (inRow[row] < least) {
+                    least = inRow[row];
+                }
             }
             return least;
         }
