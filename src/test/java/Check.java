@@ -1,5 +1,12 @@
 /** What the tests share: texts put on the TAPE, and answers held against those that are due. */
 final class Check {
+    /** The texts that are read by a call of their own. */
+    static final int PATTERN = 0;
+    static final int HAND = 1;
+    static final int WAY = 2;
+    static final int WATCHER = 3;
+    static final int LOSSES = 4;
+
     private final String name;
     private int wrong;
     private int made;
@@ -40,6 +47,40 @@ final class Check {
         if (x.end(text.length()) != text.length()) {
             throw new IllegalStateException("the TAPE can't have " + text.length() + " bytes");
         }
+    }
+
+    /** A text of a kind is read: a WAY as WAY 0. */
+    static int tell(StitchSays x, int kind, String text) {
+        switch (kind) {
+            case PATTERN:
+                return pattern(x, text);
+            case HAND:
+                return hand(x, text);
+            case WAY:
+                return way(x, 0, text);
+            case WATCHER:
+                return watcher(x, text);
+            default:
+                return losses(x, text);
+        }
+    }
+
+    /** A new object takes the text. */
+    void fine(int kind, String text, int want) {
+        told(kind, text, want, 0, -1);
+    }
+
+    /** A new object finds a FAULT at a place. */
+    void faulty(int kind, String text, int fault, int place) {
+        told(kind, text, -4, fault, place);
+    }
+
+    private void told(int kind, String text, int want, int fault, int place) {
+        StitchSays x = new StitchSays();
+        due("'" + text + "'", tell(x, kind, text), want);
+        due("fault(0) of '" + text + "'", x.fault(0), fault);
+        due("fault(1) of '" + text + "'", x.fault(1), place);
+        due("bytes behind '" + text + "'", x.count(7), 0);
     }
 
     static int pattern(StitchSays x, String text) {

@@ -1,11 +1,11 @@
 /** Promises 4 to 9: the texts on the TAPE, what they change, and their FAULTS. */
 public final class TextsTest {
     private static final Check CHECK = new Check("TextsTest");
-    private static final int PATTERN = 0;
-    private static final int HAND = 1;
-    private static final int WAY = 2;
-    private static final int WATCHER = 3;
-    private static final int LOSSES = 4;
+    private static final int PATTERN = Check.PATTERN;
+    private static final int HAND = Check.HAND;
+    private static final int WAY = Check.WAY;
+    private static final int WATCHER = Check.WATCHER;
+    private static final int LOSSES = Check.LOSSES;
 
     public static void main(String[] args) {
         patternTexts();
@@ -20,35 +20,12 @@ public final class TextsTest {
         CHECK.finish();
     }
 
-    private static int tell(StitchSays x, int kind, String text) {
-        switch (kind) {
-            case PATTERN:
-                return Check.pattern(x, text);
-            case HAND:
-                return Check.hand(x, text);
-            case WAY:
-                return Check.way(x, 0, text);
-            case WATCHER:
-                return Check.watcher(x, text);
-            default:
-                return Check.losses(x, text);
-        }
-    }
-
     private static void fine(int kind, String text, int want) {
-        StitchSays x = new StitchSays();
-        CHECK.due("'" + text + "'", tell(x, kind, text), want);
-        CHECK.due("fault(0) of '" + text + "'", x.fault(0), 0);
-        CHECK.due("fault(1) of '" + text + "'", x.fault(1), -1);
-        CHECK.due("bytes behind '" + text + "'", x.count(7), 0);
+        CHECK.fine(kind, text, want);
     }
 
     private static void faulty(int kind, String text, int fault, int place) {
-        StitchSays x = new StitchSays();
-        CHECK.due("'" + text + "'", tell(x, kind, text), -4);
-        CHECK.due("fault(0) of '" + text + "'", x.fault(0), fault);
-        CHECK.due("fault(1) of '" + text + "'", x.fault(1), place);
-        CHECK.due("bytes behind '" + text + "'", x.count(7), 0);
+        CHECK.faulty(kind, text, fault, place);
     }
 
     private static void patternTexts() {
@@ -239,7 +216,7 @@ public final class TextsTest {
         for (int kind = PATTERN; kind <= LOSSES; kind++) {
             String[] texts = {"wide 3 rows 3;row k;row x;", "hand f 0 h 0 m 0", "way over f step 2",
                 "stop if 1 more 0;stop", "wash;wash;was"};
-            CHECK.due("a FAULT", tell(x, kind, texts[kind]), -4);
+            CHECK.due("a FAULT", Check.tell(x, kind, texts[kind]), -4);
         }
         CHECK.due("rows stay", x.count(0), 1);
         CHECK.due("columns stay", x.count(1), 10);
