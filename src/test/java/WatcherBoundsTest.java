@@ -19,16 +19,20 @@ public final class WatcherBoundsTest {
         odds();
         carriesByRoom();
         carriesByDoubt();
+        carriesOneByOne();
         bestOfSix();
         bestByFewest();
         bestByRoom();
         bestBehindLosses();
+        bestOfOtherWords();
         lossesOfRowsAndColumns();
         lossesByMoths();
         washed();
         mendByNumbers();
         mendOfFewPlaces();
         mendOfManyPlaces();
+        mendByRuns();
+        mendBehindAnotherPattern();
         CHECK.finish();
     }
 
@@ -358,6 +362,24 @@ public final class WatcherBoundsTest {
         CHECK.due("all can be told", x.carries(0, 0, 1), 0);
     }
 
+    /** As CLOTHS that are knitted and put into one by one, from each seed on. */
+    private static void carriesOneByOne() {
+        StitchSays x = reader("ox", 16);
+        Check.hand(x, "hand f 50 h 0 m 0;");
+        for (int seed : new int[] {0, 1, 1_999_999_990, 1_999_999_991}) {
+            for (int bound = 6; bound <= 11; bound++) {
+                Check.watcher(x, "stop if purls more " + bound + ";");
+                int due = 0;
+                for (int n = 1; n <= 10; n++) {
+                    x.knit(0, seed + n - 1);
+                    Check.put(x, 0, 0, "ox");
+                    due += x.stops(0) == 0 ? 1 : 0;
+                    CHECK.due("carries(0, " + seed + ", " + n + ") by " + bound, x.carries(0, seed, n), due);
+                }
+            }
+        }
+    }
+
     // ---- promise 26
 
     private static void bestOfSix() {
@@ -460,6 +482,24 @@ public final class WatcherBoundsTest {
         CHECK.due("not six", x.best(0), 0);
         Check.watcher(x, "stop if purls same 8;");
         CHECK.due("not eight", x.best(0), 0);
+    }
+
+    /** Read again behind LOSSES they are other words, or fewer: that is not "read again". */
+    private static void bestOfOtherWords() {
+        StitchSays x = reader("a ", 16);
+        Check.pattern(x, "wide 10 rows 3;row f;row hf;row f;");
+        Check.hand(x, "hand f 0 h 100 m 0;");
+        Check.way(x, 0, "way over fh group 2;");
+        x.knit(0, 0);
+        CHECK.due("without LOSSES", x.best(0), 0);
+        // Holes that are plain turn the blank's five into 31: a alone is left.
+        Check.losses(x, "wash;");
+        CHECK.due("fewer LETTERS", x.best(0), -1);
+        x.copy(0, 1);
+        Check.put(x, 1, 0, "a ");
+        x.lose(1);
+        CHECK.due("what would be read", x.read(1, 0), 1);
+        CHECK.dueText("what would be read", Check.letters(x), "a");
     }
 
     // ---- LOSSES; promise 27
@@ -614,5 +654,75 @@ public final class WatcherBoundsTest {
         CHECK.due("two of a row apart", x.mend(0), 2);
         Check.watcher(x, "stop if purls less 3;");
         CHECK.due("three of 256", x.mend(0), -1);
+    }
+
+    private static int runsIn(String signs) {
+        int runs = 0;
+        for (int i = 1; i < signs.length(); i++) {
+            String pair = signs.substring(i - 1, i + 1);
+            runs += pair.equals("01") || pair.equals("10") ? 1 : 0;
+        }
+        return runs;
+    }
+
+    private static String turned(String signs, int place) {
+        char sign = signs.charAt(place);
+        return sign == '#' ? null : signs.substring(0, place) + (sign == '0' ? '1' : '0') + signs.substring(place + 1);
+    }
+
+    /** The least number of turns that brings runs from first to last. */
+    private static int turnsFor(String signs, int first, int last) {
+        int least = 3;
+        for (int i = 0; i < signs.length(); i++) {
+            for (int j = i; j < signs.length(); j++) {
+                String one = turned(signs, i);
+                String two = one == null || i == j ? one : turned(one, j);
+                if (two != null && runsIn(two) >= first && runsIn(two) <= last) {
+                    least = Math.min(least, i == j ? 1 : 2);
+                }
+            }
+        }
+        return runsIn(signs) >= first && runsIn(signs) <= last ? 0 : least == 3 ? -1 : least;
+    }
+
+    /** All CLOTHS of five f, some lost, and all bounds of runs: by trying. */
+    private static void mendByRuns() {
+        for (int n = 0; n < 243; n++) {
+            StringBuilder text = new StringBuilder();
+            StringBuilder losses = new StringBuilder();
+            for (int i = 0, rest = n; i < 5; i++, rest /= 3) {
+                text.append("01#".charAt(rest % 3));
+                losses.append(rest % 3 == 2 ? "moth 99 from " + (2 * i) + ";" : "");
+            }
+            String signs = text.toString();
+            StitchSays x = knitted("wide 9 rows 1;row fh;");
+            for (int i = 0; i < 5; i++) {
+                if (signs.charAt(i) == '1') {
+                    x.turn(0, 0, 2 * i);
+                }
+            }
+            Check.losses(x, losses.toString());
+            x.lose(0);
+            for (int first = 0; first <= 4; first++) {
+                int last = first + (n % 2);
+                Check.watcher(x, "stop if runs less " + first + ";stop if runs more " + last + ";");
+                CHECK.due(signs + " to runs " + first + " .. " + last, x.mend(0), turnsFor(signs, first, last));
+            }
+            CHECK.due("runs stay", x.counts(0, 3), runsIn(signs));
+        }
+    }
+
+    private static void mendBehindAnotherPattern() {
+        StitchSays x = knitted("wide 3 rows 1;row f;");
+        Check.watcher(x, "stop if runs less 1;");
+        CHECK.due("three f", x.mend(0), 1);
+        for (String signs : new String[] {"h", "fhh", "hfh", "mmf", "kfk"}) {
+            Check.pattern(x, "wide 3 rows 1;row " + signs + ";");
+            x.knit(0, 0);
+            CHECK.due("one f, or none", x.mend(0), -1);
+            Check.pattern(x, "wide 3 rows 1;row f;");
+            x.knit(0, 0);
+            CHECK.due("three f again", x.mend(0), 1);
+        }
     }
 }

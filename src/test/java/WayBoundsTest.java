@@ -8,6 +8,7 @@ public final class WayBoundsTest {
         groupsAndGuards();
         whatGroupsTell();
         whatBitsTell();
+        waysInTurn();
         bitsOfBytes();
         whatIsTurnedOver();
         roomForWords();
@@ -166,6 +167,38 @@ public final class WayBoundsTest {
                 CHECK.due("the BIT of " + signs, x.bit(0, 0, 0), due);
                 CHECK.due("dim of " + signs, x.dim(0, 0), due == 2 ? 1 : 0);
                 CHECK.due("told alike in " + signs, x.same(0, 0, 0), due == 2 ? 0 : 1);
+            }
+        }
+    }
+
+    /** Each call goes by the WAY that it names, whichever was named ahead of it. */
+    private static void waysInTurn() {
+        StitchSays x = plain(10, 2, "way over f;");
+        String[] ways = {"way over f;", "way over f top;", "way over f step 2;", "way over f group 3;",
+            "way over f guard 5 turn;", "way over f step 9;"};
+        int[] rooms = {20, 20, 10, 6, 4, 2};
+        int[] lastPlaces = {109, 9, 109, 109, 100, 107};
+        int[] bits = {0, 1, 0, 0, 0, 0};
+        int[] lost = {10, 10, 5, 4, 2, 1};
+        for (int k = 0; k < 6; k++) {
+            Check.way(x, k, ways[k]);
+        }
+        x.knit(1, 0);
+        x.turn(1, 1, 0);
+        x.knit(2, 0);
+        Check.losses(x, "lose rows 0 to 0;");
+        x.lose(2);
+        for (int shift = 0; shift < 6; shift++) {
+            for (int n = 0; n < 6; n++) {
+                int k = (n + shift * n) % 6;
+                CHECK.due("room(" + k + ")", x.room(k), rooms[k]);
+                int other = (k + 1 + shift) % 6;
+                CHECK.due("bit(1, " + other + ", 0)", x.bit(1, other, 0), bits[other]);
+                CHECK.due("dim(2, " + k + ")", x.dim(2, k), lost[k]);
+                CHECK.due("most(" + other + ")", x.most(other), Math.max(0, rooms[other] / 5 - 1));
+                int places = k == 2 ? 10 : k == 5 ? 2 : 20;
+                CHECK.due("place(" + k + ", the last)", x.place(k, places - 1), lastPlaces[k]);
+                CHECK.due("same(1, 1, " + other + ")", x.same(1, 1, other), rooms[other]);
             }
         }
     }
