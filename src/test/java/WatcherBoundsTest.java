@@ -27,6 +27,7 @@ public final class WatcherBoundsTest {
         bestOfOtherWords();
         lossesOfRowsAndColumns();
         lossesByMoths();
+        lostAheadAndNow();
         washed();
         mendByNumbers();
         mendOfFewPlaces();
@@ -546,6 +547,21 @@ public final class WatcherBoundsTest {
                 }
             }
         }
+    }
+
+    /** All that is lost in it then, what was lost ahead too. */
+    private static void lostAheadAndNow() {
+        StitchSays x = knitted("wide 4 rows 2;row fk;");
+        Check.losses(x, "lose columns 0 to 0;");
+        CHECK.due("two", x.lose(0), 2);
+        Check.losses(x, "lose columns 1 to 1;");
+        CHECK.due("two more", x.lose(0), 4);
+        Check.losses(x, "lose rows 0 to 0;");
+        CHECK.due("two of four are lost already", x.lose(0), 6);
+        Check.losses(x, "");
+        CHECK.due("no LOSSES", x.lose(0), 6);
+        Check.losses(x, "moth 1 from 0;");
+        CHECK.due("all", x.lose(0), 8);
     }
 
     private static void washed() {
