@@ -29,6 +29,11 @@ public final class FaceTest {
         classesInside();
         source(Files.readString(Path.of("src/main/java/StitchSays.java")));
         CHECK.due("fields and elements of a new object stay few", sizeOf(new StitchSays()) <= MOST_ELEMENTS ? 1 : 0, 1);
+        StitchSays kept = new StitchSays();
+        for (int k = 0; k < 3; k++) {
+            kept.keep(k);
+        }
+        CHECK.due("with three IMAGES, too", sizeOf(kept) <= 2 * MOST_ELEMENTS ? 1 : 0, 1);
         CHECK.finish();
     }
 
